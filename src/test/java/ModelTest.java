@@ -8,7 +8,7 @@ import java.util.Random;
  */
 public final class ModelTest {
     private static final int RUNS = 1500;
-    private static final int CALLS = 500;
+    private static final int CALLS = 450;
     private static final int MOST_JUMPS = 9;
 
     private static int wrong = 0;
@@ -57,6 +57,7 @@ public final class ModelTest {
                 askSome();
             }
         }
+        askAllBytes();
     }
 
     private void insertLine(boolean nearEdge) {
@@ -254,17 +255,21 @@ public final class ModelTest {
             askFollowing(address);
         }
         due("longs", desk.longs(), Integer.bitCount(chosen));
-        askAllBytes();
-        calls += 50;
+        calls += 43;
     }
 
-    /** Not counted as calls of a user: the object is done for after its run. */
+    /** On new objects, since one object has too few calls for all bytes. */
     private void askAllBytes() {
-        if (calls + 60 < CALLS) {
-            return;
-        }
-        for (int k = 0; k < bytes.length; k++) {
-            due("at " + k, desk.at(k), bytes[k]);
+        int step = 400;
+        for (int from = 0; from < bytes.length; from += step) {
+            SpanDesk other = new SpanDesk();
+            for (int k = 0; k < source.size(); k++) {
+                other.insert(k, source.get(k)[0], source.get(k)[1], source.get(k)[2]);
+            }
+            due("assemble anew", other.assemble(), bytes.length);
+            for (int k = from; k < from + step && k < bytes.length; k++) {
+                due("at " + k, other.at(k), bytes[k]);
+            }
         }
     }
 

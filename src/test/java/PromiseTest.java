@@ -21,6 +21,7 @@ public final class PromiseTest {
         assembleForwardEdge();
         assembleBackwardEdge();
         assembleChain();
+        assembleLongChain();
         assembleThrows();
         assembleThrowChangesNothing();
         assembleStays();
@@ -182,6 +183,26 @@ public final class PromiseTest {
         due("5 a chain, three long", desk.longs(), 3);
         desk.remove(8);
         due("5 a chain, short again", assembled(desk), "133");
+    }
+
+    /** Each jump leads over the next one alone, so that a last one pushes all others one by one. */
+    private static void assembleLongChain() {
+        SpanDesk desk = new SpanDesk();
+        for (int k = 0; k < 16; k++) {
+            desk.insert(desk.lines(), JUMP, k, 1 + k % 7);
+            desk.insert(desk.lines(), DATA, 62 + k % 2, 9);
+            if (k > 0) {
+                desk.insert(desk.lines(), LABEL, k - 1, 0);
+            }
+        }
+        desk.insert(desk.lines(), DATA, 64, 9);
+        desk.insert(desk.lines(), LABEL, 15, 0);
+        due("5 a long chain, all short", assembled(desk), "1096");
+        due("5 a long chain, none long", desk.longs(), 0);
+        desk.insert(48, DATA, 1, 9);
+        due("5 a long chain, all long", assembled(desk), "1145");
+        due("5 a long chain, sixteen long", desk.longs(), 16);
+        due("5 a long chain, the first label", desk.value(0), 5 + 62 + 5 + 63);
     }
 
     private static void assembleThrows() {
@@ -388,6 +409,10 @@ public final class PromiseTest {
         assembled(slow);
         due("13 operation 32 has bit 0", slow.trace(0, 1, 33), 39);
         due("13 operation 32 without bit 0", slow.trace(0, -2, 33), 34);
+        desk = desk(new int[][] {{DATA, 33, 9}, {DATA, 1, 33}, {DATA, 1, 5}, {DATA, 20, 9}});
+        assembled(desk);
+        due("13 operation 33 has bit 1", desk.trace(0, 2, 34), 40);
+        due("13 operation 33 without bit 1", desk.trace(0, -3, 34), 35);
     }
 
     private static void traceAlways() {
@@ -419,25 +444,32 @@ public final class PromiseTest {
 
     /** No argument, in any state, may bring out an exception that the document does not name. */
     private static void wildArguments() {
-        SpanDesk[] desks = {new SpanDesk(), sample(), bytes(64, 255), desk(new int[][] {{JUMP, 3, 0}})};
-        for (SpanDesk desk : desks) {
-            for (int a : WILD) {
-                desk.at(a);
-                desk.address(a);
-                desk.form(a);
-                desk.value(a);
-                desk.jumps(a);
-                followed(desk, a, true);
-                followed(desk, a, false);
-                for (int b : WILD) {
-                    desk.trace(a, b, b);
-                    desk.trace(a, b, 40);
-                    desk.insert(a, b, a, b);
-                }
-                desk.remove(a);
-                assembled(desk);
+        for (int a : WILD) {
+            SpanDesk[] desks = {
+                new SpanDesk(), sample(), bytes(64, 255), desk(new int[][] {{JUMP, 3, 0}})
+            };
+            for (SpanDesk desk : desks) {
+                wildCalls(desk, a);
             }
         }
+    }
+
+    private static void wildCalls(SpanDesk desk, int a) {
+        desk.at(a);
+        desk.address(a);
+        desk.form(a);
+        desk.value(a);
+        desk.jumps(a);
+        followed(desk, a, true);
+        followed(desk, a, false);
+        for (int b : WILD) {
+            desk.trace(a, b, b);
+            desk.trace(a, b, 40);
+            desk.insert(a, b, a, b);
+            desk.insert(a, 3, b, 0);
+        }
+        desk.remove(a);
+        assembled(desk);
     }
 
     private static SpanDesk desk(int[][] lines) {
