@@ -20,6 +20,7 @@ public final class BoundaryFormsTest {
         longElsewhereDoesNotPush();
         everyRoundPushesOneMore();
         jumpsBackAndForthOverAll();
+        longOnesAreShortAgain();
         emptyProgram();
         largestProgram();
         labelDefinedTwice();
@@ -202,6 +203,18 @@ public final class BoundaryFormsTest {
         Check.due("all long", Check.assembled(desk), "224");
         Check.due("all of them", desk.longs(), 47);
         Check.due("the last label", desk.value(0), 224);
+    }
+
+    /** "as few jumps as can be are long": those that were long before, too, once they reach. */
+    private static void longOnesAreShortAgain() {
+        SpanDesk desk = Check.made(135, Check.label(0), Check.jump(1, 1), Check.data(125, 9), Check.jump(0, 1), Check.label(1));
+        Check.due("long", desk.longs(), 2);
+        desk.remove(2);
+        desk.insert(2, 1, 124, 9);
+        Check.due("bytes", Check.assembled(desk), "128");
+        Check.due("short", desk.longs(), 0);
+        Check.due("forward", desk.form(1), 1);
+        Check.due("backward", desk.form(3), 1);
     }
 
     /** "how many bytes": none of an empty program. */

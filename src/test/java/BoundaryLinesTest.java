@@ -51,6 +51,8 @@ public final class BoundaryLinesTest {
 
     /** "nothing assembled." */
     private static void newObjectHasNothingAssembled() {
+        // Another object that has assembled something must not show in a new one.
+        SpanDesk other = Check.made(133, Check.label(0), Check.data(130, 32), Check.jump(0, 0));
         SpanDesk desk = new SpanDesk();
         for (int filled = 0; filled < 2; filled++) {
             Check.due("at", desk.at(0), -1);
@@ -66,6 +68,7 @@ public final class BoundaryLinesTest {
             // The same once more with lines that have not been assembled.
             Check.append(desk, Check.label(0), Check.data(200, 32), Check.jump(0, 0));
         }
+        Check.due("the other one", other.longs(), 1);
     }
 
     /** "LINES, numbered from 0 on." */
