@@ -29,7 +29,9 @@ public final class BoundaryFollowTest {
         traceEachBit();
         traceBitsComeAgain();
         traceBitOfAnOperationWithoutJump();
-        traceAlways();
+        traceAlwaysLong();
+        traceAlwaysShort();
+        traceAlwaysInEitherForm();
         traceNotAlways();
         traceStopsOutside();
         traceStopsWhereCutOff();
@@ -280,13 +282,29 @@ public final class BoundaryFollowTest {
         Check.due("bits 0 and 2", desk.trace(0, 1 + 4, 3), 4);
     }
 
-    /** "those always that are always". */
-    private static void traceAlways() {
+    /** "those always that are always": "64: three bytes, a jump always". */
+    private static void traceAlwaysLong() {
         Check.due("64", Check.bytes(64, 0, 2, 9, 9, 9).trace(0, 0, 1), 5);
         Check.due("64 with its bit", Check.bytes(64, 0, 2, 9, 9, 9).trace(0, 1, 1), 5);
+    }
+
+    /** "those always that are always": "a condition c (0 always, 1 .. 7)", "JUMP short: 32 + c". */
+    private static void traceAlwaysShort() {
         SpanDesk desk = Check.made(4, Check.jump(0, 0), Check.data(2, 9), Check.label(0));
         Check.due("a short JUMP on 0", desk.trace(0, 0, 1), 4);
         Check.due("a short JUMP on 0 with its bit", desk.trace(0, 1, 1), 4);
+        Check.due("32 that DATA wrote", Check.bytes(32, 2, 9, 9).trace(0, 0, 1), 4);
+    }
+
+    /** "a condition c (0 always": the same way in either form, whatever the bits are. */
+    private static void traceAlwaysInEitherForm() {
+        for (int between = 120; between <= 135; between++) {
+            SpanDesk desk = Check.desk(Check.jump(0, 0), Check.data(between, 9), Check.label(0));
+            Check.assembled(desk);
+            for (int bits : new int[] {0, 1, -2, -1}) {
+                Check.due("over " + between + " with " + bits, desk.trace(0, bits, 40), desk.value(0));
+            }
+        }
     }
 
     /** "those always that are always": no other one. */

@@ -5,7 +5,10 @@ import java.lang.reflect.Modifier;
 import java.util.Set;
 import java.util.TreeSet;
 
-/** The face is the document's: these members, and no other one that is not private. */
+/**
+ * The face is the document's: these members, and no other one that is not private. And what
+ * LANGUAGE.md asks of the members that nobody sees, as far as the compiled class can tell it.
+ */
 public final class FaceTest {
     private static final Set<String> FACE = Set.of(
         "public static final int SpanDesk.NONE",
@@ -23,15 +26,49 @@ public final class FaceTest {
         "public boolean SpanDesk.jumps(int)",
         "public int SpanDesk.trace(int,int,int)");
 
+    private static int wrong = 0;
+
     public static void main(String[] args) {
-        Set<String> due = new TreeSet<>(FACE);
-        Set<String> seen = visibleMembers();
-        boolean isFinal = Modifier.toString(SpanDesk.class.getModifiers()).equals("public final");
-        if (!seen.equals(due) || !isFinal) {
-            System.out.println("the face is " + seen + ", due is " + due);
+        due("the face", visibleMembers(), new TreeSet<>(FACE));
+        due("the class", Modifier.toString(SpanDesk.class.getModifiers()), "public final");
+        dueHidden(SpanDesk.class);
+        for (Class<?> inside : SpanDesk.class.getDeclaredClasses()) {
+            due(inside + " is static", Modifier.isStatic(inside.getModifiers()), true);
+            due(inside + " is public", Modifier.isPublic(inside.getModifiers()), false);
+            due(inside + " is protected", Modifier.isProtected(inside.getModifiers()), false);
+            dueHidden(inside);
+        }
+        System.out.println(wrong == 0 ? "the face is as due" : wrong + " checks failed");
+        if (wrong != 0) {
             System.exit(1);
         }
-        System.out.println("the face is as due");
+    }
+
+    /** Rules 1, 5 and 11: names that the face has, static state, parameters and fields. */
+    private static void dueHidden(Class<?> owner) {
+        int fields = 0;
+        for (Field field : owner.getDeclaredFields()) {
+            boolean isStatic = Modifier.isStatic(field.getModifiers());
+            due(field + " changes for all objects", isStatic && !Modifier.isFinal(field.getModifiers()), false);
+            fields += isStatic ? 0 : 1;
+        }
+        due(owner + " has at most twenty fields", fields <= 20, true);
+        for (Method method : owner.getDeclaredMethods()) {
+            boolean isFace = FACE.contains(method.toString());
+            due(method + " has a name of the face", !isFace && isFaceName(method.getName()), false);
+            due(method + " has at most seven parameters", method.getParameterCount() <= 7, true);
+        }
+    }
+
+    private static boolean isFaceName(String name) {
+        return FACE.stream().anyMatch(member -> member.contains("SpanDesk." + name + "("));
+    }
+
+    private static void due(String what, Object got, Object want) {
+        if (!got.equals(want)) {
+            wrong++;
+            System.out.println(what + ": answered " + got + ", due is " + want);
+        }
     }
 
     private static Set<String> visibleMembers() {

@@ -35,6 +35,7 @@ public final class PromiseTest {
         traceAlways();
         traceEdges();
         wildArguments();
+        readmeExample();
         Check.end("all promises hold");
     }
 
@@ -444,5 +445,23 @@ public final class PromiseTest {
         }
         desk.remove(a);
         Check.assembled(desk);
+    }
+
+    /** The calls that README.md shows, with the answers that it tells. */
+    private static void readmeExample() {
+        SpanDesk desk = new SpanDesk();
+        Check.due("insert 0", desk.insert(0, 0, 1, 0), true);
+        Check.due("insert 1", desk.insert(1, 1, 126, 9), true);
+        Check.due("insert 2", desk.insert(2, 3, 1, 0), true);
+        Check.due("assemble", Check.assembled(desk), "128");
+        Check.due("form", desk.form(2), 1);
+        Check.due("at", desk.at(127), 128);
+        Check.due("follow", Check.followed(desk, 126, true), "0");
+        Check.due("trace", desk.trace(126, 0, 3), 2);
+        Check.due("insert one more", desk.insert(1, 1, 1, 9), true);
+        Check.due("assemble again", Check.assembled(desk), "130");
+        Check.due("form again", desk.form(3), 2);
+        Check.due("address", desk.address(3), 127);
+        Check.due("longs", desk.longs(), 1);
     }
 }
